@@ -555,17 +555,11 @@ public final class RestBoard {
             Arrays.fill(tied, NONE);
         }
 
-        /** An earlier node of this number may have been undone, so nothing of it may be left. */
+        /** The other rows are as in a new state there: nodes go by undoing alone, which puts back all rows. */
         void welcome(int node, Node told) {
             values[node] = told.values[0];
             System.arraycopy(told.values, 0, packed, node * PACK, PACK);
-            counts[node] = 0;
-            forgotten[node] = 0;
             powers[node] = OFF;
-            lines[node] = NONE;
-            depths[node] = 0;
-            Arrays.fill(wanting, node * PACK, node * PACK + PACK, NONE);
-            Arrays.fill(tied, node * TIES, node * TIES + TIES, NONE);
         }
 
         void take(State other) {

@@ -5,6 +5,8 @@ public final class MethodTest {
   public static void main(String[] args) {
     refusals();
     terms();
+    deepTerms();
+    argsInOrder();
     sums();
     statements();
     loops();
@@ -95,6 +97,47 @@ public final class MethodTest {
     x.power(9, 0);
     check.due("on", x.call(8, 0, 0, 0), 1);
     check.due("called", x.call(11, 0, 0, 0), 6);
+  }
+
+  private static void deepTerms() {
+    // Eight deep, by each statement and each term that has terms in it. Seven 8s of 0 are 1, of 5 are 0.
+    int[] one = {8, 8, 8, 8, 8, 8, 8, 0, 0};
+    int[] zero = {8, 8, 8, 8, 8, 8, 8, 0, 5};
+    RestBoard x = Check.board(Check.number('n', 9), Check.pack('p', 1, 2, 3),
+        Check.method('a', 0, 16, 1, one, 17, 'n', one, 18, 'p', one, one, 22, 2, 1),
+        Check.method('b', 0, when(one, 22, 0, 7), 22, 0, 2), Check.method('c', 0, when(zero, 22, 0, 7), otherwise(22, 0, 6)),
+        Check.method('d', 0, repeat(one, 22, 0, 8)), Check.method('e', 0, 22, one), Check.method('f', 0, 26, one, 28, one));
+    check.due("16", x.call(3, 0, 0, 0), 1);
+    check.due("17", x.node(1, 8), 1);
+    check.due("18", x.node(2, 11), 1);
+    check.due("19", x.call(4, 0, 0, 0), 7);
+    check.due("20", x.call(5, 0, 0, 0), 6);
+    check.due("21", x.call(6, 0, 0, 0), 8);
+    check.due("22", x.call(7, 0, 0, 0), 1);
+    check.due("28", x.call(8, 0, 0, 0), -7);
+    check.due("28's reason", x.error(1), 1);
+    check.due("26", x.note(0, 1), 1);
+    x = Check.board(Check.pack('p', 1, 2, 0), Check.method('i', 1, 22, 3, 0),
+        Check.method('a', 0, 22, 6, 'p', 6, 'p', 6, 'p', 6, 'p', 6, 'p', 6, 'p', 6, 'p', 0, 0),
+        Check.method('b', 0, 22, 7, 0, 0, 1, 7, 0, 0, 2, 7, 0, 0, 4, 7, 0, 0, 8, 7, 0, 0, 16, 7, 0, 0, 32, 7, 0, 0, 64, 0, 128),
+        Check.method('c', 0, 22, 7, 0, 7, 0, 7, 0, 7, 0, 7, 0, 7, 0, 7, 0, 0, 128, 0, 64, 0, 32, 0, 16, 0, 8, 0, 4, 0, 2, 0, 1),
+        Check.method('d', 0, 22, 5, 'i', 1, 5, 'i', 1, 5, 'i', 1, 5, 'i', 1, 5, 'i', 1, 5, 'i', 1, 5, 'i', 1, 0, 33));
+    check.due("6", x.call(3, 0, 0, 0), 1);
+    check.due("7 to the right", x.call(4, 0, 0, 0), 255);
+    check.due("7 to the left", x.call(5, 0, 0, 0), 255);
+    check.due("5", x.call(6, 0, 0, 0), 33);
+    // A loop's term is reckoned eight deep each time.
+    x = Check.board(Check.method('m', 0, 16, 0, 0, 3, repeat(term(8, 8, 8, 8, 8, 8, 2, 0), 16, 0, 7, 1, 2, 0, 0, 1), 22, 2, 0));
+    check.due("21 again", x.call(1, 0, 0, 0), 0);
+    check.due("21 again: steps", x.count(11), 2 + 1 + 4 * 7 + 3 * 4 + 2);
+  }
+
+  private static void argsInOrder() {
+    RestBoard x = Check.board(Check.method('t', 3, 22, 7, 0, 7, 2, 0, 100, 3, 0, 7, 0, 7, 2, 0, 10, 3, 1, 3, 2),
+        Check.method('u', 2, 22, 7, 0, 7, 2, 0, 10, 3, 0, 3, 1), Check.method('n', 1, 26, 3, 0, 22, 3, 0),
+        Check.method('m', 0, 22, 5, 't', 3, 5, 'n', 1, 0, 1, 5, 'u', 2, 5, 'n', 1, 0, 0, 5, 'n', 1, 0, 2, 5, 'n', 1, 0, 3));
+    check.due("three args, one from a call", x.call(4, 0, 0, 0), 123);
+    check.row("from the left", Check.notes(x), 0, 3, 0, 2, 0, 0, 0, 1);
   }
 
   private static void sums() {
@@ -342,6 +385,16 @@ public final class MethodTest {
     check.due("number", x.node(1, 8), 5);
     check.due("lock", x.node(2, 24), 0);
     check.due("register", x.register(2, 0), 0);
+    x.call(4, 0, 0, 0);
+    int[] error = Check.error(x);
+    check.due("steps of the call", x.count(11), 9);
+    x.tries(4, 3, 0, 0, 0);
+    check.due("its steps stay", x.count(11), 9);
+    x.store(1, 6);
+    check.due("another error on paper", x.tries(4, 0, 0, 0, 0), -7);
+    check.row("its error stays", Check.error(x), error);
+    x.would(1);
+    check.due("its steps stay", x.count(11), 9);
     x.rest(1);
     check.due("-3", x.tries(4, 0, 0, 0, 0), -3);
     check.due("-3", x.tries(4, 0, 0, 0, 1), 0);

@@ -119,6 +119,9 @@ public final class ModelTest {
           return false;
         }
       }
+      if (chance(15)) {
+        return true;
+      }
       return told("call(" + method + ", " + a + ", " + b + ", " + c + ")", board.call(method, a, b, c), model.call(method, a, b, c));
     } else if (dice < 34) {
       int node = chance(50) ? pickKind(4) : pickKind(6);
@@ -138,6 +141,9 @@ public final class ModelTest {
       int k = chance(5) ? pick(7) - 1 : 1 + pick(4);
       if (!same("would(" + k + ")", board.would(k), model.would(k))) {
         return false;
+      }
+      if (chance(10)) {
+        return true;
       }
       int result = model.rest(k);
       seen[20] += result >= 0 ? 1 : 0;
@@ -378,7 +384,8 @@ public final class ModelTest {
       } else if (dice < 28) {
         return Check.bytes(17, name(pick(4) == 0 ? "uvh" : "ijklxg"), term(args, 1));
       } else if (dice < 36) {
-        return Check.bytes(18, name("pqrw"), term(args, 5), pick(3) == 0 ? term(args, 1) : new int[] {0, from("abef")});
+        int[] value = pick(4) == 0 ? term(args, 1) : new int[] {0, pick(3) == 0 ? pick(5) : from("abef")};
+        return Check.bytes(18, name("pqrw"), pick(3) == 0 ? term(args, 5) : new int[] {0, pick(3)}, value);
       } else if (dice < 42) {
         return Check.bytes(22, term(args, 1));
       } else if (dice < 46) {
@@ -407,6 +414,9 @@ public final class ModelTest {
 
     private int[] term(int args, int deep) {
       int dice = pick(deep > 3 ? 62 : 100);
+      if (pick(20) == 0 && deep < 8) {
+        return Check.bytes(8, term(args, deep + 1));
+      }
       if (dice < 20) {
         return Check.bytes(0, pick(3) == 0 ? pick(256) : pick(4));
       } else if (dice < 24) {

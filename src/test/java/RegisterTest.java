@@ -76,6 +76,12 @@ public final class RegisterTest {
     check.due("byte 7", x.register(3, 7), 0x80);
     check.due("one bit, cut", x.store(4, 2), 0);
     check.due("byte 0", x.register(3, 0), 0x80);
+    x = Check.board(Check.field('a', 0, 1, 8, 0), Check.field('b', 0, 8, 1, 0));
+    x.store(1, 255);
+    check.due("bank 0", x.register(0, 0), 254);
+    check.due("one bit of the next byte", x.register(0, 1), 1);
+    check.due("two bytes are read", x.count(6), 2);
+    check.due("one bit", x.node(2, 8), 1);
     check.due("no bank 5", x.register(5, 0), -1);
     check.due("no bank -1", x.register(-1, 0), -1);
     check.due("no byte 8", x.register(0, 8), -1);

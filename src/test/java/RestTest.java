@@ -9,6 +9,9 @@ public final class RestTest {
     choices();
     noPower();
     staysOn();
+    staysOnBehindTheLast();
+    undoneRests();
+    stepsOfNone();
     methodFails();
     takenBack();
     least();
@@ -186,8 +189,63 @@ public final class RestTest {
     check.due("undone", x.undo(), 6);
     check.due("no note", x.count(9), 0);
     check.due("level 1 for rest 1", x.rest(1), 1);
+    check.due("device off", x.node(9, 30), 3);
     check.due("a is on", x.node(3, 5), 1);
     check.due("b is on", x.node(4, 5), 1);
+  }
+
+  private static void staysOnBehindTheLast() {
+    // The last one that is powered is powered back, too.
+    RestBoard x = Check.board(Check.number('j', 0), Check.resource('a', 1, 0), Check.resource('b', 4, 0), Check.device('d', Check.pack('p', 'b')),
+        Check.device('e', Check.pack('p', 'a'), Check.pack('w', 1, 4)));
+    x.power(4, 0);
+    x.power(6, 0);
+    x.arm(6);
+    check.due("stays on", x.rest(2), -5);
+    check.due("power", x.node(4, 30), 0);
+    check.due("count", x.node(3, 5), 1);
+    check.row("switches", Check.switches(x), 3, 1, 3, 0, 2, 1, 3, 1);
+    check.due("no steps", x.count(11), 0);
+  }
+
+  private static void undoneRests() {
+    // A rest that is come back to by undoing knows the powers ahead of it, not those ahead of a later one.
+    RestBoard x = Check.board(Check.number('i', 3), Check.resource('a', 4, 0), Check.resource('b', 4, 0),
+        Check.device('d', Check.pack('p', 'a'), Check.pack('q', 'b'), Check.pack('w', 1, 4)));
+    x.power(4, 0);
+    x.arm(4);
+    x.rest(1);
+    x.raise(1);
+    x.clear(1);
+    x.power(4, 1);
+    x.rest(1);
+    for (int i = 0; i < 4; i++) {
+      x.undo();
+    }
+    check.due("it rests", x.count(2), 1);
+    check.due("raise", x.raise(1), 1);
+    check.due("power", x.node(4, 30), 0);
+    check.due("wants", x.wants(4), 1 << 2);
+    check.due("a", x.node(2, 5), 1);
+    check.due("b", x.node(3, 5), 0);
+  }
+
+  private static void stepsOfNone() {
+    RestBoard x = Check.board(Check.number('i', 0), Check.method('m', 0, 22, 0, 1), Check.device('d', Check.pack('w', 1, 1)));
+    x.call(2, 0, 0, 0);
+    check.due("call", x.count(11), 2);
+    x.arm(3);
+    check.due("arm", x.count(11), 2);
+    check.due("not there", x.rest(2), -4);
+    check.due("refused", x.count(11), 2);
+    x.rest(1);
+    check.due("rest", x.count(11), 0);
+    x.undo();
+    x.call(2, 0, 0, 0);
+    check.due("refused", x.raise(9), -1);
+    check.due("refused", x.count(11), 2);
+    x.raise(2);
+    check.due("raise", x.count(11), 0);
   }
 
   private static void methodFails() {

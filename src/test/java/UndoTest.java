@@ -5,6 +5,7 @@ public final class UndoTest {
   public static void main(String[] args) {
     eachAct();
     eightAreKept();
+    rowsAreBack();
     whatStays();
     nodesComeAnew();
     counts();
@@ -68,6 +69,40 @@ public final class UndoTest {
     x.store(1, 50);
     check.due("again", x.undo(), 2);
     check.due("value", x.node(1, 8), 3);
+  }
+
+  private static void rowsAreBack() {
+    RestBoard x = Check.board(Check.resource('a', 4, 0), Check.resource('b', 4, 1), Check.device('d', Check.pack('w', 2, 3, 'a'),
+        Check.method('m', 2, 26, 3, 1, 18, 'w', 3, 0, 3, 1)));
+    x.arm(3);
+    x.call(5, 0, 4, 0);
+    x.call(5, 1, 1, 0);
+    x.call(5, 2, 'b', 0);
+    x.disarm(3);
+    x.arm(3);
+    check.due("line", x.node(3, 32), 4);
+    check.due("depth", x.node(3, 33), 1);
+    check.due("wants", x.wants(3), 1 << 2);
+    x.undo();
+    x.undo();
+    check.due("line", x.node(3, 32), 2);
+    check.due("depth", x.node(3, 33), 3);
+    check.due("wants", x.wants(3), 1 << 1);
+    x.undo();
+    check.due("value", x.node(4, 12), 'a');
+    check.row("notes", Check.notes(x), 3, 1, 3, 4);
+    x.undo();
+    check.due("value", x.node(4, 11), 3);
+    for (int i = 0; i < 20; i++) {
+      x.call(5, 0, i, 0);
+    }
+    for (int i = 0; i < 3; i++) {
+      x.undo();
+    }
+    check.due("the latest note", x.note(0, 1), 16);
+    check.due("the oldest note", x.note(15, 1), 1);
+    check.due("disarm", x.disarm(3), 1);
+    check.row("switches", Check.switches(x), 1, 0, 1, 1);
   }
 
   private static void whatStays() {
