@@ -117,19 +117,23 @@ public final class MethodTest {
     check.due("28", x.call(8, 0, 0, 0), -7);
     check.due("28's reason", x.error(1), 1);
     check.due("26", x.note(0, 1), 1);
-    x = Check.board(Check.pack('p', 1, 2, 0), Check.method('i', 1, 22, 3, 0),
+    x = Check.board(Check.pack('p', 1, 2, 3, 0), Check.method('i', 1, 22, 3, 0),
         Check.method('a', 0, 22, 6, 'p', 6, 'p', 6, 'p', 6, 'p', 6, 'p', 6, 'p', 6, 'p', 0, 0),
         Check.method('b', 0, 22, 7, 0, 0, 1, 7, 0, 0, 2, 7, 0, 0, 4, 7, 0, 0, 8, 7, 0, 0, 16, 7, 0, 0, 32, 7, 0, 0, 64, 0, 128),
         Check.method('c', 0, 22, 7, 0, 7, 0, 7, 0, 7, 0, 7, 0, 7, 0, 7, 0, 0, 128, 0, 64, 0, 32, 0, 16, 0, 8, 0, 4, 0, 2, 0, 1),
         Check.method('d', 0, 22, 5, 'i', 1, 5, 'i', 1, 5, 'i', 1, 5, 'i', 1, 5, 'i', 1, 5, 'i', 1, 5, 'i', 1, 0, 33));
-    check.due("6", x.call(3, 0, 0, 0), 1);
+    check.due("6", x.call(3, 0, 0, 0), 3);
     check.due("7 to the right", x.call(4, 0, 0, 0), 255);
     check.due("7 to the left", x.call(5, 0, 0, 0), 255);
     check.due("5", x.call(6, 0, 0, 0), 33);
     // A loop's term is reckoned eight deep each time.
-    x = Check.board(Check.method('m', 0, 16, 0, 0, 3, repeat(term(8, 8, 8, 8, 8, 8, 2, 0), 16, 0, 7, 1, 2, 0, 0, 1), 22, 2, 0));
-    check.due("21 again", x.call(1, 0, 0, 0), 0);
-    check.due("21 again: steps", x.count(11), 2 + 1 + 4 * 7 + 3 * 4 + 2);
+    x = Check.board(Check.method('m', 0, repeat(term(8, 8, 8, 8, 8, 8, 8, 2, 0), 16, 0, 2, 1, 16, 1, 0, 1), 22, 7, 0, 2, 0, 2, 1));
+    check.due("21 again", x.call(1, 0, 0, 0), 2);
+    check.due("21 again: steps", x.count(11), 1 + 3 * 8 + 2 * 4 + 4);
+    int[] seventh = {7, 0, 0, 0, 7, 0, 0, 0, 7, 0, 0, 0, 7, 0, 0, 0, 7, 0, 0, 0, 7, 0, 0, 0};
+    x = Check.board(Check.method('t', 3, 22, 7, 0, 7, 2, 0, 100, 3, 0, 7, 0, 7, 2, 0, 10, 3, 1, 3, 2),
+        Check.method('m', 0, 22, seventh, 5, 't', 3, 0, 4, 0, 5, 0, 6));
+    check.due("5's three", x.call(2, 0, 0, 0), 456);
   }
 
   private static void argsInOrder() {

@@ -9,6 +9,7 @@ public final class TapeTest {
     refusals();
     definitionFaults();
     codeFaults();
+    faultsAnew();
     nodesOver();
     check.finish();
   }
@@ -248,6 +249,20 @@ public final class TapeTest {
     code("20 behind a 19 that ends a 20", 10, 19, 0, 1, 0, 20, 4, 19, 0, 1, 0, 20, 0);
     code("28", -1, 28, 0, 1);
     fault("what is behind a method", 7, Check.method('m', 0, 22, 0, 1), 'l', 'z');
+  }
+
+  /** What was open when a table faulted is not open in the next one. */
+  private static void faultsAnew() {
+    RestBoard x = new RestBoard();
+    check.due("a fault in a 21", Check.load(x, 0, Check.method('m', 0, 21, 0, 1, 1, 99)), -6);
+    check.due("its place", x.fault(), 8);
+    check.due("a 27 outside of any", Check.load(x, 0, Check.method('m', 0, 27)), -6);
+    check.due("its place", x.fault(), 4);
+    check.due("a fault in a device", Check.load(x, 0, Check.device('d', Check.device('e', "X"))), -6);
+    check.due("its place", x.fault(), 6);
+    check.due("below the root", Check.load(x, 0, Check.lock('l')), 1);
+    check.due("its parent", x.node(1, 2), 0);
+    check.due("no fault", x.fault(), -1);
   }
 
   private static void nodesOver() {
