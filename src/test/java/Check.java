@@ -1,11 +1,17 @@
+import java.io.IOException;
+import java.nio.file.Files;
+import java.nio.file.Path;
 import java.util.ArrayList;
 import java.util.List;
+import java.util.function.IntSupplier;
 
 /** Tells answers that are not the ones due, and writes tables down for the tests. */
 final class Check {
   private final String title;
   private int asked = 0;
   private int wrong = 0;
+  private int sentences = 0;
+  private String sentence = "";
 
   Check(String title) {
     this.title = title;
@@ -15,7 +21,27 @@ final class Check {
     asked++;
     if (got != want) {
       wrong++;
-      System.out.println(title + ": " + what + " answered " + got + ", due is " + want);
+      System.out.println(title + ": " + sentence + what + " answered " + got + ", due is " + want);
+    }
+  }
+
+  /** The words of the document that the next answers are held against; they must stand there. */
+  void says(String words) {
+    sentence = '"' + words + "\": ";
+    sentences++;
+    due("the document's words", Document.TEXT.isEmpty() || Document.TEXT.contains(words) ? 1 : 0, 1);
+  }
+
+  /** The document in one line; empty where it can't be read. */
+  private static final class Document {
+    static final String TEXT = read(Path.of("../shared/DOC.md"));
+
+    private static String read(Path path) {
+      try {
+        return Files.isReadable(path) ? Files.readString(path).replaceAll("\\s+", " ") : "";
+      } catch (IOException e) {
+        return "";
+      }
     }
   }
 
@@ -27,8 +53,118 @@ final class Check {
     }
   }
 
+  /** A call that is refused: what it answers and what is told of it; all else is as it was. */
+  void refused(String what, RestBoard x, int by, IntSupplier call) {
+    long[] before = told(x);
+    int[] counts = refusals(x);
+    due(what, call.getAsInt(), by);
+    due(what + ": status", x.status(), by);
+    int[] after = refusals(x);
+    for (int i = 0; i < counts.length; i++) {
+      due(what + ": refused by -" + (i + 1), after[i] - counts[i], i + 1 == -by ? 1 : 0);
+    }
+    same(what, told(x), before);
+  }
+
+  /** A call that tells something and changes nothing, not even what is told of refused calls. */
+  void asked(String what, RestBoard x, int answer, IntSupplier call) {
+    long[] before = told(x);
+    int[] counts = refusals(x);
+    int status = x.status();
+    due(what, call.getAsInt(), answer);
+    due(what + ": status", x.status(), status);
+    row(what + ": refused", refusals(x), counts);
+    same(what, told(x), before);
+  }
+
+  /** What is told now is what was told before. */
+  void same(String what, long[] got, long[] before) {
+    due(what + ": how much is told", got.length, before.length);
+    for (int i = 0; i < Math.min(got.length, before.length); i++) {
+      if (got[i] != before[i]) {
+        due(what + ": what is told, number " + i + ", behind it", got[i], before[i]);
+        return;
+      }
+    }
+  }
+
+  private static int[] refusals(RestBoard x) {
+    int[] row = new int[7];
+    for (int i = 0; i < row.length; i++) {
+      row[i] = x.count(14 + i);
+    }
+    return row;
+  }
+
+  /** All that a board tells without being changed, but for refused calls. */
+  static long[] told(RestBoard x) {
+    List<Long> all = new ArrayList<>();
+    addWhatUndoPutsBack(x, all);
+    all.add((long) x.fault());
+    for (int what = 11; what <= 13; what++) {
+      all.add((long) x.count(what));
+    }
+    for (int what = 0; what <= 22; what++) {
+      all.add((long) x.error(what));
+    }
+    return numbers(all);
+  }
+
+  /** The same without the tape, the fault, the latest error, steps, and how many can be undone. */
+  static long[] standing(RestBoard x) {
+    List<Long> all = new ArrayList<>();
+    addWhatUndoPutsBack(x, all);
+    return numbers(all);
+  }
+
+  private static void addWhatUndoPutsBack(RestBoard x, List<Long> all) {
+    all.add((long) x.deepest());
+    for (int what = 0; what <= 10; what++) {
+      all.add((long) x.count(what));
+    }
+    for (int node = -1; node <= x.count(0); node++) {
+      addNode(x, node, all);
+    }
+    for (int i = 0; i < 40; i++) {
+      all.add((long) x.register(i / 8, i % 8));
+    }
+    for (int k = 1; k <= 4; k++) {
+      all.add((long) x.why(k));
+    }
+    for (int ago = 0; ago <= 32; ago++) {
+      for (int what = 0; what <= 1; what++) {
+        all.add((long) x.note(ago, what));
+        all.add((long) x.switched(ago, what));
+      }
+    }
+  }
+
+  private static void addNode(RestBoard x, int node, List<Long> all) {
+    for (int what = 0; what <= 34; what++) {
+      all.add((long) x.node(node, what));
+    }
+    for (int i = 0; i < x.node(node, 7); i++) {
+      all.add((long) x.code(node, i));
+    }
+    for (int name = 'a'; x.node(node, 0) == 1 && name <= 'z'; name++) {
+      all.add((long) x.lookUp(node, name));
+    }
+    all.add(x.wants(node));
+    all.add(x.wanted(node));
+    all.add((long) x.order(node));
+  }
+
+  private static long[] numbers(List<Long> all) {
+    long[] row = new long[all.size()];
+    for (int i = 0; i < row.length; i++) {
+      row[i] = all.get(i);
+    }
+    return row;
+  }
+
   void finish() {
-    System.out.println(title + ": " + asked + " answers looked at, " + wrong + " wrong");
+    String held = sentences == 0 ? "" : sentences + " sentences, ";
+    System.out.println(title + ": " + held + asked + " answers looked at, " + wrong + " wrong");
     if (wrong != 0) {
       System.exit(1);
     }
