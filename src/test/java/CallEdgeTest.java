@@ -15,6 +15,8 @@ public final class CallEdgeTest {
     whatUndoLeaves();
     undoAtRest();
     undoLastNode();
+    undoOfTheLastDevices();
+    undoOfFullRows();
     nodesTell();
     codesTell();
     countsTell();
@@ -258,18 +260,113 @@ public final class CallEdgeTest {
     check.due("ten in all", r.node(31, 5), 10);
     RestBoard d = Check.board(Check.number('i', 0), locksWithout('i'), Check.device('u', "La", "Lb", "Lc", "Ld", "Le", "Lf", "Lg", "Lh", "Lk"), Check.device('v'));
     check.due("node 31", d.node(31, 30), 3);
+    check.due("none has another power", d.rest(1), 0);
+    check.due("undone", d.undo(), 6);
     keeps(d, () -> d.power(31, 0), 3);
     d.power(31, 0);
     keeps(d, () -> d.rest(1), 6);
     d.rest(1);
     check.due("off", d.node(31, 30), 3);
     check.due("switches none", d.count(10), 0);
+    // Node 31 has another power ahead of each of two rests.
+    RestBoard t = Check.board(Check.number('i', 0), locksWithout('i'), Check.device('u', Check.pack('w', 5, 4), "La", "Lb", "Lc", "Ld", "Le", "Lf", "Lg", "Lh"), Check.device('v'));
+    t.arm(21);
+    t.power(31, 0);
+    t.rest(1);
+    check.due("wakes", t.raise(5), 1);
+    check.due("power", t.node(31, 30), 0);
+    t.clear(5);
+    t.power(31, 3);
+    check.due("none has another power", t.rest(1), 0);
+    for (int i = 0; i < 4; i++) {
+      t.undo();
+    }
+    check.due("the first rest", t.raise(5), 1);
+    check.due("power", t.node(31, 30), 0);
     // Node 30 is armed and has its package as node 31.
     RestBoard w = Check.board(Check.number('i', 0), locksWithout('i'), Check.device('u', "La", "Lb", "Lc", "Ld", "Le", "Lf", "Lg", "Lh"), Check.device('v', Check.pack('w', 7, 4)));
     check.due("node 31", w.node(31, 9), 2);
     keeps(w, () -> w.arm(30), 4);
     w.arm(30);
     keeps(w, () -> w.raise(7), 7);
+  }
+
+  private static void undoOfTheLastDevices() {
+    check.says("all but the TAPE, FAULT, the latest ERROR, STEPS, what is told of REFUSED calls is as it was");
+    int[] p = Check.pack('p', 'a', 'b', 'a', 'b', 'a', 'b');
+    int[] q = Check.pack('q', 'b', 'b', 'b', 'b', 'b', 'b');
+    int[] w = Check.pack('w', 2, 4, 'a', 'a', 'b', 'b');
+    int[] locks = {};
+    for (int i = 0; i < 11; i++) {
+      locks = row(locks, 'L', 'l' + i);
+    }
+    RestBoard x = Check.board(Check.number('i', 3), Check.resource('a', 4, 0), Check.resource('b', 4, 1), locks, Check.device('c', p, q, w), Check.device('d', p, q), Check.device('f'), Check.device('g'), Check.device('h'),
+        Check.device('k', "La", "Lb"), Check.device('e', p, q, w));
+    check.due("32 nodes", x.count(0), 32);
+    int[] devices = {15, 19, 22, 23, 24, 25, 28};
+    for (int device : devices) {
+      check.due("a device", x.node(device, 30), 3);
+    }
+    keeps(x, () -> x.arm(28), 4);
+    x.arm(28);
+    keeps(x, () -> x.disarm(28), 5);
+    x.disarm(28);
+    for (int device : devices) {
+      keeps(x, () -> x.power(device, 0), 3);
+      x.power(device, 0);
+    }
+    keeps(x, () -> x.arm(15), 4);
+    keeps(x, () -> x.arm(28), 4);
+    x.arm(28);
+    x.arm(15);
+    keeps(x, () -> x.disarm(28), 5);
+    keeps(x, () -> x.power(28, 1), 3);
+    keeps(x, () -> x.rest(1), 6);
+    long[] awake = Check.standing(x);
+    x.rest(1);
+    long[] asleep = Check.standing(x);
+    x.raise(2);
+    x.clear(2);
+    x.power(19, 1);
+    x.power(28, 1);
+    x.power(25, 3);
+    x.rest(1);
+    for (int i = 0; i < 6; i++) {
+      x.undo();
+    }
+    check.same("the first rest", Check.standing(x), asleep);
+    check.due("wakes", x.raise(2), 2);
+    for (int device : devices) {
+      check.due("power of " + device, x.node(device, 30), 0);
+    }
+    check.due("wants", x.wants(28), 12);
+    check.due("wants", x.wants(19), 12);
+    check.due("a", x.node(2, 5), 13);
+    check.due("b", x.node(3, 5), 13);
+    x.undo();
+    x.undo();
+    check.same("ahead of the rest", Check.standing(x), awake);
+  }
+
+  /** Rows that are full lose their oldest by an act; undone, they have it again. */
+  private static void undoOfFullRows() {
+    check.says("all but the TAPE, FAULT, the latest ERROR, STEPS, what is told of REFUSED calls is as it was");
+    int[] noter = Check.method('m', 1, 26, 3, 0);
+    RestBoard x = Check.board(noter, Check.device('d', noter), Check.device('e', Check.method('m', 1, 16, 0, 3, 0, Check.block(21, row(2, 0), 26, 2, 0, 16, 0, 7, 1, 2, 0, 0, 1))));
+    for (int i = 0; i < 23; i++) {
+      x.call(i % 3 == 0 ? 1 : 3, i, 0, 0);
+    }
+    keeps(x, () -> x.call(5, 1, 0, 0), 1);
+    keeps(x, () -> x.call(5, 40, 0, 0), 1);
+    keeps(x, () -> x.call(5, 16, 0, 0), 1);
+    RestBoard y = Check.board(Check.resource('a', 0, 0), Check.resource('b', 0, 1), Check.resource('e', 0, 2), Check.device('d', Check.pack('p', 'a'), Check.pack('q', 'b'), Check.pack('r', 'e')), Check.device('f', Check.pack('w', 1, 1, 'b', 'e')));
+    for (int i = 0; i < 20; i++) {
+      y.power(4, i % 3);
+    }
+    check.due("full", y.count(10), 32);
+    keeps(y, () -> y.power(4, 3), 3);
+    keeps(y, () -> y.power(4, 0), 3);
+    keeps(y, () -> y.arm(8), 4);
   }
 
   private static int[] locksWithout(char name) {
@@ -289,7 +386,8 @@ public final class CallEdgeTest {
   }
 
   private static void nodesTell() {
-    check.says("Of a NODE: KIND (what 0), NAME (1; 0 of the ROOT), PARENT (2; NONE of the ROOT);");
+    check.says("Of a NODE: KIND (what 0), NAME (1; 0 of the ROOT), PARENT (2; NONE of the ROOT); of a RESOURCE LEVEL (3), ORDER (4), COUNT (5); of a METHOD ARGS (6), bytes of CODE (7);");
+    check.says("of a PACKAGE how many VALUES (9), the i-th (10 + i); of a FIELD BANK (20), OFFSET (21), WIDTH (22), RULE (23); of a LOCK how many were FORGOTTEN (24); of a DEVICE POWER (30), 1 if ARMED (31),");
     RestBoard x = Check.board(Check.device('d', Check.pack('w', 7, 4, 'r'), Check.device('e')), Check.resource('r', 4, 9), Check.method('m', 3, 22, 3, 2), Check.number('n', 65535), Check.pack('p', 1, 2, 3, 4, 5, 65535),
         Check.field('f', 4, 48, 16, 2), "Ll", Check.pack('q'));
     x.arm(1);
@@ -348,6 +446,7 @@ public final class CallEdgeTest {
     x.store(8, 3);
     x.raise(0);
     x.raise(7);
+    check.says("13 bytes of the TAPE");
     x.feed(0, 0, 0, 0, 0);
     x.rest(2);
     int[] then = {9, 3, 2, 2, 1, 129, 2, 3, 3, 0, 2, 0, 7, 20};
@@ -358,7 +457,7 @@ public final class CallEdgeTest {
     check.due("awake", x.count(2), 0);
     check.due("a note", x.count(9), 1);
     check.due("lines", x.count(5), 137);
-    check.says("NONE for others. ## Promise 30: status");
+    check.says("how many calls were REFUSED by -1 .. -7. NONE for others.");
     for (int what : new int[] {-1, 21, 22, 100, Integer.MAX_VALUE, Integer.MIN_VALUE}) {
       check.asked("count(" + what + ")", x, -1, () -> x.count(what));
     }
@@ -527,6 +626,8 @@ public final class CallEdgeTest {
   }
 
   private static void manyCalls() {
+    check.says("`NONE = -1`: There is none.");
+    check.due("NONE", RestBoard.NONE, -1);
     check.says("An object is used for at most 512 calls after it has been made");
     RestBoard x = Check.board(Check.method('m', 1, 16, 0, 3, 0, Check.block(21, row(2, 0), 26, 2, 0, 16, 0, 7, 1, 2, 0, 0, 1), 22, 0, 9), Check.number('n', 0));
     for (int i = 0; i < 250; i++) {

@@ -84,6 +84,17 @@ public final class LanguageTest {
     while (imports.find()) {
       check.due("import " + imports.group(1), imports.group(1).equals("java.util.Arrays") ? 1 : 0, 1);
     }
+    Matcher library = Pattern.compile("\\b([A-Z][a-z]\\w*)\\.(\\w+)\\(").matcher(code);
+    Set<String> listed = Set.of("Math.min", "Math.max", "Integer.bitCount", "Arrays.fill", "System.arraycopy");
+    while (library.find()) {
+      String call = library.group(1) + "." + library.group(2);
+      check.due("the library's " + call, listed.contains(call) ? 1 : 0, 1);
+    }
+    check.due("texts, doubles, floats", Pattern.compile("\"|\\b(double|float|String)\\b").matcher(code).find() ? 1 : 0, 0);
+    check.due("loops without a bound", Pattern.compile("while \\(true\\)|for \\(;|for \\([^;]*;;").matcher(code).find() ? 1 : 0, 0);
+    check.due("a static initialiser", Pattern.compile("\\bstatic \\{").matcher(code).find() ? 1 : 0, 0);
+    Matcher statics = Pattern.compile("\\bstatic (?!final (?:class|int) )(\\w+ )?\\w+ \\w+ *[=;]").matcher(code);
+    check.due("static state but constants of int", statics.find() ? 1 : 0, 0);
     for (char letter : text.toCharArray()) {
       if (letter > 126) {
         check.due("a sign above 126", letter, 0);

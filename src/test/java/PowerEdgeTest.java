@@ -16,6 +16,7 @@ public final class PowerEdgeTest {
     whatItCan();
     valuesThatAreNoNames();
     itsOwnPackage();
+    otherPackages();
     newOnesFirst();
     runsItsMethod();
     methodsThatAreNone();
@@ -28,6 +29,7 @@ public final class PowerEdgeTest {
     namesOfTies();
     asTheyAreNow();
     tillItIsDisarmed();
+    othersStayArmed();
     armsRefused();
     disarmsRefused();
     wanting();
@@ -271,6 +273,25 @@ public final class PowerEdgeTest {
     check.due("none", x.wants(6), 0);
     check.due("none", x.node(1, 5), 0);
     check.due("its own", x.power(7, 0), 1);
+  }
+
+  private static void otherPackages() {
+    check.says("by 3, or 0 without p: none.");
+    RestBoard x = Check.board(Check.number('i', 3), Check.resource('a', 4, 0), Check.device('d', Check.pack('o', 'a'), Check.pack('s', 'a'), Check.pack('t', 'a'), Check.pack('w', 1, 4)));
+    check.due("0", x.power(3, 0), 0);
+    check.due("none by 0", x.wants(3), 0);
+    check.due("3", x.power(3, 3), 0);
+    check.due("none by 3", x.wants(3), 0);
+    check.refused("no 4", x, -1, () -> x.power(3, 4));
+    x.power(3, 0);
+    check.due("to rest", x.rest(1), 1);
+    check.due("3 is the greatest", x.node(3, 30), 3);
+    check.due("none by 3", x.wants(3), 0);
+    x.undo();
+    x.arm(3);
+    check.due("to rest", x.rest(1), 1);
+    check.due("3 is the greatest", x.node(3, 30), 3);
+    check.due("none was ever on", x.count(10), 0);
   }
 
   private static void newOnesFirst() {
@@ -549,6 +570,51 @@ public final class PowerEdgeTest {
     check.due("four on", x.count(3), 4);
   }
 
+  private static void othersStayArmed() {
+    check.says("these are COUNTED till it is disarmed.");
+    int[] four = row(Check.resource('a', 4, 0), Check.resource('b', 4, 0), Check.resource('c', 4, 0), Check.resource('d', 4, 0));
+    int[] w = Check.pack('w', 1, 4, 'a', 'b', 'c', 'd');
+    // Nodes 5, 6 and 7 are devices in one another, 11 lies beside them.
+    RestBoard x = Check.board(four, Check.device('s', Check.device('t', Check.device('u', w), w), w), Check.device('v', w));
+    int[] devices = {5, 6, 7, 11};
+    for (int first : devices) {
+      for (int second : devices) {
+        if (first == second) {
+          continue;
+        }
+        x.arm(first);
+        x.arm(second);
+        check.due("both", x.node(1, 5) + x.node(2, 5) + x.node(3, 5) + x.node(4, 5), 8);
+        check.due("the first", x.wants(first), 30);
+        check.due("the second", x.wants(second), 30);
+        check.due("none off", x.disarm(first), 0);
+        check.due("one", x.node(1, 5) + x.node(2, 5) + x.node(3, 5) + x.node(4, 5), 4);
+        check.due("the first", x.wants(first), 0);
+        check.due("the second", x.wants(second), 30);
+        check.due("its line", x.node(second, 32), 1);
+        check.due("all off", x.disarm(second), 4);
+        check.due("none", x.count(3), 0);
+      }
+    }
+    // The same for what they want by their powers.
+    int[] p = Check.pack('p', 'a', 'b', 'c', 'd', 'a', 'b');
+    x = Check.board(four, Check.device('s', Check.device('t', Check.device('u', p), p), p), Check.device('v', p));
+    for (int device : devices) {
+      x.power(device, 0);
+    }
+    check.due("a", x.node(1, 5), 8);
+    x.power(7, 3);
+    check.due("a", x.node(1, 5), 6);
+    check.due("wants", x.wants(6), 30);
+    x.power(6, 3);
+    check.due("wants", x.wants(5), 30);
+    x.power(5, 3);
+    check.due("a", x.node(1, 5), 2);
+    check.due("d", x.node(4, 5), 1);
+    check.due("wants", x.wants(11), 30);
+    check.due("all off", x.power(11, 3), 4);
+  }
+
   private static void armsRefused() {
     check.says("A DEVICE is ARMED: its LINE. -2 (the ROOT, too); -3; -4 (it is; it has no such PACKAGE w).");
     RestBoard x = Check.board(Check.number('i', 0), Check.device('d', Check.pack('w', 3, 1)), Check.resource('r', 0, 0), Check.method('m', 0), Check.pack('w', 1, 1), Check.field('f', 0, 0, 8, 0), "Ll",
@@ -606,7 +672,8 @@ public final class PowerEdgeTest {
     x.power(26, 3);
     check.due("armed", x.wants(26), 1L << 31 | 1L << 29);
     check.due("31 is wanted", x.wanted(31), 1L << 26);
-    x.disarm(26);
+    check.due("two off", x.disarm(26), 2);
+    check.row("31 off", Arrays.copyOf(Check.switches(x), 4), 29, 0, 31, 0);
     check.due("none", x.wants(26), 0);
     check.due("the root wants none", x.wants(0), 0);
     for (int node : new int[] {-1, 1, 2, 27, 31, 32, Integer.MAX_VALUE, Integer.MIN_VALUE}) {

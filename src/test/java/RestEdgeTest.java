@@ -191,7 +191,8 @@ public final class RestEdgeTest {
       RestBoard x = Check.board(table, Check.device('d', Check.pack('w', 0, 3)));
       check.due("of " + bits, x.deepest(), deepest);
       x.arm(x.lookUp(0, 'd'));
-      check.due("of " + bits + " with a depth of 3", x.deepest(), deepest < 4 ? deepest : Integer.highestOneBit(bits & 7) == 0 ? 0 : 1 + Integer.numberOfTrailingZeros(Integer.highestOneBit(bits & 7)));
+      // Bits 0 to 2 stand for rests 1 to 3.
+      check.due("of " + bits + " with a depth of 3", x.deepest(), 32 - Integer.numberOfLeadingZeros(bits & 7));
     }
     check.due("of nothing", new RestBoard().deepest(), 0);
   }

@@ -13,6 +13,15 @@ public final class RunEdgeTest {
     lookedUpLast();
     lookedUpFromItsParent();
     comesToItsEnd();
+    valuesByName();
+    isItOn();
+    intoLocals();
+    intoPackages();
+    ifAndElse();
+    asLongAs();
+    outOfTheInnermost();
+    notesOfItsParent();
+    whichSum();
     locksAsOftenAsOneLikes();
     locksOfAnotherRun();
     forgottenInAnyWay();
@@ -216,6 +225,141 @@ public final class RunEdgeTest {
     check.due("the first 22", run(22, 0, 9, 22, 0, 8), 9);
     RestBoard x = Check.board(Check.method('a', 0, 23, 0, 9), Check.method('m', 0, 22, 7, 0, 0, 5, 5, 'a', 0));
     check.due("in a term", x.call(2, 0, 0, 0), 5);
+  }
+
+  private static void valuesByName() {
+    check.says("4 NAME (a NUMBER's, a FIELD's VALUE)");
+    RestBoard x = Check.board(Check.number('n', 65535), Check.field('f', 3, 55, 9, 0), Check.method('a', 0, 22, 4, 'n'), Check.method('b', 0, 22, 4, 'f'));
+    check.due("number", x.call(3, 0, 0, 0), 65535);
+    check.due("field", x.call(4, 0, 0, 0), 0);
+    x.store(1, 0);
+    x.store(2, 511);
+    check.due("number", x.call(3, 0, 0, 0), 0);
+    check.due("field", x.call(4, 0, 0, 0), 511);
+    check.says("17 NAME TERM (into a NUMBER, a FIELD, there cut to WIDTH)");
+    x = Check.board(Check.number('n', 5), Check.field('f', 3, 55, 9, 0), Check.method('m', 1, 17, 'n', 3, 0, 17, 'f', 3, 0));
+    x.call(3, 65535, 0, 0);
+    check.due("number", x.node(1, 8), 65535);
+    check.due("field", x.node(2, 8), 511);
+    x.call(3, 0, 0, 0);
+    check.due("number", x.node(1, 8), 0);
+    check.due("field", x.node(2, 8), 0);
+  }
+
+  private static void isItOn() {
+    check.says("9 NAME (1 if a RESOURCE is ON, else 0).");
+    RestBoard x = Check.board(Check.resource('a', 0, 0), Check.method('m', 0, 22, 9, 'a'), Check.device('d', Check.pack('p', 'a', 'a', 'a')), Check.device('e', Check.pack('w', 1, 1, 'a')));
+    check.due("off", x.call(2, 0, 0, 0), 0);
+    x.arm(5);
+    check.due("counted once", x.call(2, 0, 0, 0), 1);
+    x.power(3, 0);
+    check.due("counted four times", x.call(2, 0, 0, 0), 1);
+    x.disarm(5);
+    x.power(3, 3);
+    check.due("off again", x.call(2, 0, 0, 0), 0);
+  }
+
+  private static void intoLocals() {
+    check.says("16 k TERM (into LOCAL k)");
+    for (int k = 0; k <= 3; k++) {
+      for (int other = 0; other <= 3; other++) {
+        check.due("into " + k + ", from " + other, run(16, k, 1, 255, 255, 22, 2, other), k == other ? 65535 : 0);
+      }
+      check.due("the latest", run(16, k, 0, 3, 16, k, 7, 2, 2, k, 2, k, 22, 2, k), 9);
+    }
+  }
+
+  private static void intoPackages() {
+    check.says("18 NAME TERM TERM (into VALUE so many (the first TERM) of a PACKAGE)");
+    for (int which = 0; which < 6; which++) {
+      RestBoard x = Check.board(Check.pack('p', 1, 2, 3, 4, 5, 6), Check.method('m', 2, 18, 'p', 3, 0, 3, 1, 22, 6, 'p', 3, 0));
+      check.due("what is there then", x.call(2, which, 65535, 0), 65535);
+      for (int i = 0; i < 6; i++) {
+        check.due("value " + i, x.node(1, 10 + i), i == which ? 65535 : i + 1);
+      }
+      check.due("0", x.call(2, which, 0, 0), 0);
+      check.due("so many still", x.node(1, 9), 6);
+    }
+  }
+
+  private static void ifAndElse() {
+    check.says("(n bytes of them: run if TERM isn't 0; those behind 20 if it is)");
+    int[] then = {26, 0, 1};
+    int[] other = {26, 0, 2};
+    int[] last = {26, 0, 3};
+    for (int value : new int[] {0, 1, 2, 255, 256, 32768, 65535}) {
+      RestBoard x = Check.board(Check.method('a', 1, Check.block(19, row(3, 0), then), last), Check.method('b', 1, Check.block(19, row(3, 0), then), Check.otherwise(other), last),
+          Check.method('c', 1, 19, 3, 0, 0, Check.otherwise(other), last), Check.method('d', 1, Check.block(19, row(3, 0), then), Check.otherwise(), last));
+      boolean is = value != 0;
+      x.call(1, value, 0, 0);
+      check.row("19 of " + value, Check.notes(x), is ? new int[] {0, 3, 0, 1} : new int[] {0, 3});
+      x.undo();
+      x.call(2, value, 0, 0);
+      check.row("19 and 20 of " + value, Check.notes(x), 0, 3, 0, is ? 1 : 2);
+      x.undo();
+      x.call(3, value, 0, 0);
+      check.row("an empty 19 of " + value, Check.notes(x), is ? new int[] {0, 3} : new int[] {0, 3, 0, 2});
+      x.undo();
+      x.call(4, value, 0, 0);
+      check.row("an empty 20 of " + value, Check.notes(x), is ? new int[] {0, 3, 0, 1} : new int[] {0, 3});
+    }
+    check.due("a 22 in it", run(Check.block(19, row(0, 1), 22, 0, 7), Check.otherwise(22, 0, 8), 22, 0, 9), 7);
+    check.due("a 22 in the other", run(Check.block(19, row(0, 0), 22, 0, 7), Check.otherwise(22, 0, 8), 22, 0, 9), 8);
+  }
+
+  private static void asLongAs() {
+    check.says("21 TERM n {STATEMENT} (as long as TERM is not 0)");
+    int[] down = {16, 0, 7, 1, 2, 0, 0, 1};
+    RestBoard x = Check.board(Check.method('m', 1, 16, 0, 3, 0, Check.block(21, row(2, 0), 16, 1, 7, 0, 2, 1, 0, 1, down), 22, 2, 1));
+    for (int times : new int[] {0, 1, 2, 10, 110}) {
+      check.due(times + " times", x.call(1, times, 0, 0), times);
+    }
+    check.due("of 65,535", run(16, 0, 1, 255, 255, Check.block(21, row(2, 0), 16, 1, 7, 0, 2, 1, 0, 1, 16, 0, 0, 0), 22, 2, 1), 1);
+    // Its term is reckoned ahead of each turn, with what the turn before stored.
+    x = Check.board(Check.method('n', 0, 26, 0, 5, 22, 0, 0), Check.method('m', 0, Check.block(21, row(5, 'n', 0), 26, 0, 6)));
+    x.call(2, 0, 0, 0);
+    check.row("never, but reckoned once", Check.notes(x), 0, 5);
+    check.due("a loop in a loop", run(16, 0, 0, 3, Check.block(21, row(2, 0), 16, 2, 0, 4, Check.block(21, row(2, 2), 16, 1, 7, 0, 2, 1, 0, 1, 16, 2, 7, 1, 2, 2, 0, 1), down), 22, 2, 1), 12);
+    check.due("an empty one that is never run", run(21, 0, 0, 0, 22, 0, 9), 9);
+  }
+
+  private static void outOfTheInnermost() {
+    check.says("27 (out of the innermost 21)");
+    int[] one = {0, 1};
+    check.due("at once", run(Check.block(21, one, 27, 22, 0, 8), 22, 0, 9), 9);
+    check.due("in a 19", run(Check.block(21, one, Check.block(19, one, 27, 22, 0, 7), 22, 0, 8), 22, 0, 9), 9);
+    check.due("behind a 20", run(Check.block(21, one, 19, 0, 0, 0, Check.otherwise(27, 22, 0, 7), 22, 0, 8), 22, 0, 9), 9);
+    check.due("in three 19s", run(Check.block(21, one, Check.block(19, one, Check.block(19, one, Check.block(19, one, 27))), 22, 0, 8), 22, 0, 9), 9);
+    check.due("of two, the inner", run(Check.block(21, one, Check.block(21, one, 27, 22, 0, 7), 22, 0, 8), 22, 0, 9), 8);
+    check.due("of two, both", run(Check.block(21, one, Check.block(21, one, 27), 27, 22, 0, 8), 22, 0, 9), 9);
+    check.due("of two, in a 19 of the inner", run(Check.block(21, one, Check.block(21, one, Check.block(19, one, 27)), 22, 0, 8), 22, 0, 9), 8);
+    check.due("behind the inner, in a 19", run(Check.block(21, one, Check.block(21, one, 27), Check.block(19, one, 27), 22, 0, 8), 22, 0, 9), 9);
+    check.due("the 21 ends the code", run(16, 0, 0, 5, Check.block(21, one, 27)), 0);
+    check.due("a 20 behind a 19 that has a 21", run(Check.block(19, one, Check.block(21, one, 27)), Check.otherwise(22, 0, 8), 22, 0, 9), 9);
+  }
+
+  private static void notesOfItsParent() {
+    check.says("26 TERM (a NOTE of the METHOD's PARENT)");
+    int[] n = Check.method('n', 1, 26, 3, 0);
+    RestBoard x = Check.board(n, Check.device('d', n, Check.method('m', 1, 23, 5, 'n', 1, 3, 0), Check.device('e', Check.method('m', 1, 23, 5, 'n', 1, 3, 0))));
+    x.call(1, 0, 0, 0);
+    x.call(3, 65535, 0, 0);
+    x.call(4, 7, 0, 0);
+    x.call(6, 8, 0, 0);
+    check.row("of where the method is, not of who called", Check.notes(x), 2, 8, 2, 7, 2, 65535, 0, 0);
+  }
+
+  private static void whichSum() {
+    check.says("sum, difference, product, quotient, rest, bits that both have, that one has, that just one has, 1 if the first is less, 1 if both are alike)");
+    int[] due = {82, 10, 1656, 1, 10, 36, 46, 10, 0, 0};
+    for (int how = 0; how <= 9; how++) {
+      check.due("7 " + how + " of 46 and 36", run(22, 7, how, 0, 46, 0, 36), due[how]);
+    }
+    check.due("less", run(22, 7, 8, 0, 11, 0, 12), 1);
+    check.due("alike, not less", run(22, 7, 8, 0, 12, 0, 12), 0);
+    check.due("alike", run(22, 7, 9, 0, 12, 0, 12), 1);
+    check.due("rest", run(22, 7, 4, 0, 47, 0, 12), 11);
+    check.due("quotient", run(22, 7, 3, 0, 47, 0, 12), 3);
   }
 
   private static void locksAsOftenAsOneLikes() {
@@ -432,6 +576,17 @@ public final class RunEdgeTest {
     check.due("23's term", x.call(7, 0, 0, 0), -7);
     check.row("23's term", Check.error(x), 6, 0, 7, 25);
     check.due("nothing was noted", x.count(9), 0);
+    // No register is read by such a term, no other error is met in it.
+    int[][] terms = {{4, 'g'}, {4, 'x'}, {9, 'x'}, {5, 'x', 0}, {6, 'x', 0, 1}, {7, 3, 0, 1, 0, 0}};
+    for (int[] term : terms) {
+      RestBoard y = Check.board(Check.field('g', 3, 0, 8, 0), Check.method('m', 0, at999, 23, term));
+      check.due("fails", y.call(2, 0, 0, 0), -7);
+      check.row("by its step", Check.error(y), 6, 0, 2, 25);
+      check.due("no read", y.count(6), 0);
+      check.due("no write", y.count(7), 0);
+      check.due("no select", y.count(8), 0);
+      check.due("a thousand steps", y.count(11), 1000);
+    }
   }
 
   private static void namesOfOtherKinds() {
@@ -507,6 +662,13 @@ public final class RunEdgeTest {
         }
       }
       check.due("0 by 1", run(22, 7, how, 0, 0, 0, 1), sum(how, 0, 1));
+      // A term that fails is not a 0 by which something is divided.
+      RestBoard x = coded(22, 7, how, 0, 1, 4, 'x');
+      check.due("its second fails", x.call(1, 0, 0, 0), -7);
+      check.row("its second fails", Check.error(x), 1, 0, 1, 5);
+      x = coded(22, 7, how, 4, 'x', 0, 0);
+      check.due("its first fails", x.call(1, 0, 0, 0), -7);
+      check.row("its first fails", Check.error(x), 1, 0, 1, 3);
     }
   }
 
@@ -661,6 +823,7 @@ public final class RunEdgeTest {
   }
 
   private static void fields() {
+    check.says("A FIELD's bits: from bit OFFSET on (bit i: of byte i / 8 that worth 2 to the (i modulo 8)), the first is worth 1.");
     check.says("has it not all 8 bits of it, by RULE 0 the byte is READ first and its other bits stay; by RULE 1 they become 1, by RULE 2 0; it is written (a WRITE).");
     int[] bytes = {};
     for (int i = 0; i < 8; i++) {
@@ -790,7 +953,7 @@ public final class RunEdgeTest {
   }
 
   private static void storesRefused() {
-    check.says("-1; -2; -3. ## Promise 8: power");
+    check.says("(a FIELD is not READ for that). -1; -2; -3.");
     RestBoard x = Check.board(Check.number('i', 0), Check.device('d'), Check.resource('r', 0, 0), Check.method('m', 0), Check.pack('p', 1), Check.field('f', 0, 0, 8, 0), "Ll");
     for (int value : new int[] {-1, 65536, Integer.MAX_VALUE, Integer.MIN_VALUE}) {
       check.refused("value " + value, x, -1, () -> x.store(1, value));

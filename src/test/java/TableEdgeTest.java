@@ -35,6 +35,7 @@ public final class TableEdgeTest {
     loading();
     loadsRefused();
     faults();
+    behindAFault();
     check.finish();
   }
 
@@ -289,6 +290,14 @@ public final class TableEdgeTest {
     check.due("not what is further in", x.lookUp(outer, 'c'), -1);
     check.due("not what is in a device of the root", x.lookUp(0, 'b'), -1);
     check.due("none", x.lookUp(inner, 'z'), -1);
+    int[] deep = {};
+    for (int i = 0; i < 30; i++) {
+      deep = Check.device('d', deep);
+    }
+    RestBoard y = Check.board(Check.device('x', deep));
+    check.due("the root's, from the 31st in one another", y.lookUp(31, 'x'), 1);
+    check.due("the next one above", y.lookUp(31, 'd'), 31);
+    check.due("none", y.lookUp(31, 'z'), -1);
     check.says("A NAME LOOKED UP from a DEVICE: the NODE. NONE.");
     for (int name : new int[] {0, -1, 96, 123, 'A', 'a' + 256, Integer.MIN_VALUE, Integer.MAX_VALUE}) {
       check.due("no name " + name, x.lookUp(inner, name), -1);
@@ -752,5 +761,34 @@ public final class TableEdgeTest {
     check.due("others leave it", x.fault(), 2);
     Check.load(x, 0, "La");
     check.due("none again", x.fault(), -1);
+  }
+
+  /** Whatever was open when a table had its fault, the next table is read from its own beginning. */
+  private static void behindAFault() {
+    check.says("The TABLE on the TAPE (empty then, also by -6) comes below a DEVICE");
+    int[] one = {0, 1};
+    int[] bad = {99};
+    Object[] faulty = {Check.method('m', 0, Check.block(19, one, Check.block(21, one, Check.block(19, one, bad)))),
+      Check.method('m', 0, Check.block(21, one, Check.block(21, one, Check.block(21, one, Check.block(21, one, bad))))),
+      Check.method('m', 0, Check.block(19, one, 19, one, 0, Check.otherwise(Check.block(19, one, bad)))), Check.method('m', 3, 22, 8, 8, 8, 8, 8, 8, 8, 8, 0, 1),
+      Check.device('a', Check.device('b', Check.device('c', "Lx", "Lx"))), Check.device('a', Check.device('b', Check.method('c', 1, Check.block(21, one, 27, 20)))), row("Pp", 6, 0), row("Nn", 1)};
+    for (Object table : faulty) {
+      RestBoard x = new RestBoard();
+      check.due("faulty", Check.load(x, 0, locks('f', 12), table), -6);
+      check.due("a 27 outside of any", Check.load(x, 0, Check.method('m', 0, 27)), -6);
+      check.due("its place", x.fault(), 4);
+      Check.load(x, 0, locks('f', 12), table);
+      check.due("a 20 behind none", Check.load(x, 0, Check.method('m', 0, 20, 0)), -6);
+      check.due("its place", x.fault(), 4);
+      Check.load(x, 0, locks('f', 12), table);
+      check.due("an arg of none", Check.load(x, 0, Check.method('m', 0, 22, 3, 0)), -6);
+      check.due("its place", x.fault(), 6);
+      Check.load(x, 0, locks('f', 12), table);
+      check.due("a method and another one", Check.load(x, 0, Check.method('m', 1, 22, 3, 0), Check.method('n', 0, 19, 0, 0, 0, 22, 0, 5), Check.device('d', "La"), "Lx"), 5);
+      check.due("no fault", x.fault(), -1);
+      check.due("parents", x.node(3, 2) * 100 + x.node(4, 2) * 10 + x.node(5, 2), 30);
+      check.due("run", x.call(1, 9, 0, 0), 9);
+      check.due("run", x.call(2, 0, 0, 0), 5);
+    }
   }
 }
